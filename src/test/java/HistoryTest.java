@@ -5,7 +5,9 @@ public final class HistoryTest {
     public static void main(String[] args) {
         undoing();
         undoingEachChange();
+        undoingALiftedCross();
         sixAtMost();
+        errorsInAFullHistory();
         whatIsNoChange();
         slotsAndPadStay();
         saving();
@@ -62,6 +64,36 @@ public final class HistoryTest {
             case 6 -> x.reopen(1);
             case 7 -> x.restore(0);
             default -> x.carryOut();
+        }
+    }
+
+    private static void undoingALiftedCross() {
+        ProofMarks x = new ProofMarks();
+        x.set(ProofMarks.ARGUE, 3);
+        x.mark(0, 2, 2);
+        x.argue(1, 0, 2);
+        x.save(0);
+        String before = Calls.state(x);
+        DUE.is("the cross is lifted", x.argue(2, 0, 2), 1);
+        DUE.is("and counted", x.editor(0, 5), 1);
+        x.undo();
+        DUE.isTrue("a lifted cross is undone", before.equals(Calls.state(x)));
+        x.argue(2, 0, 2);
+        x.restore(0);
+        DUE.is("restored without it", x.editor(0, 5), 0);
+        DUE.is("with the cross", x.of(2, 2), 1);
+    }
+
+    private static void errorsInAFullHistory() {
+        ProofMarks x = new ProofMarks();
+        for (int i = 1; i <= 9; i++) {
+            x.buy(1);
+            x.buy(0);
+        }
+        DUE.is("six", x.count(16), 6);
+        for (int left = 5; left >= 0; left--) {
+            DUE.is("undo() behind errors with " + left + " left", x.undo(), left);
+            DUE.is("paper behind errors with " + left + " left", x.count(5), 303 + left);
         }
     }
 
