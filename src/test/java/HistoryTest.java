@@ -121,6 +121,9 @@ public final class HistoryTest {
         x.save(0);
         x.save(1);
         x.mark(0, 0, 3);
+        x.mark(3, 0, 1);
+        x.argue(0, 1, 0);
+        x.reopen(30);
         x.restore(2);
         x.buy(0);
         DUE.is("one change only", x.count(16), 1);
