@@ -2,7 +2,8 @@ import java.util.Random;
 
 /** All promises: long runs of calls, drawn from fixed seeds, that ProofMarks and the Model must answer alike. */
 public final class RandomRunsTest {
-    private static final int RUNS = 3000, CALLS = 512;
+    /** An object answers 512 calls; the longest step of a run, which writes a text, makes less than ten. */
+    private static final int RUNS = 3000, CALLS = 512, LONGEST_STEP = 10;
     private static final int[] ODD = {-1, -2, 3, 4, 30, 31, 99, 100, Integer.MIN_VALUE, Integer.MAX_VALUE};
 
     private static final Due DUE = new Due("RandomRunsTest");
@@ -14,6 +15,7 @@ public final class RandomRunsTest {
     /** How many frames a run plays on: with few of them there are more crosses, choices and arguments. */
     private final int frames;
     private final int roundsInHundred;
+    private int calls = 0;
 
     private RandomRunsTest(int seed) {
         random = new Random(seed);
@@ -24,8 +26,8 @@ public final class RandomRunsTest {
     public static void main(String[] args) {
         for (int seed = 0; seed < RUNS; seed++) {
             RandomRunsTest run = new RandomRunsTest(seed);
-            for (int call = 0; call < CALLS; call++) {
-                run.call("seed " + seed + " call " + call + ": ");
+            while (run.calls <= CALLS - LONGEST_STEP) {
+                run.step("seed " + seed + " call " + run.calls + ": ");
             }
         }
         for (int code = 1; code <= 6; code++) {
@@ -36,6 +38,7 @@ public final class RandomRunsTest {
 
     private void same(String call, int got, int due) {
         DUE.is(call, got, due);
+        calls++;
         if (due < 0) {
             ERRORS[-due]++;
         }
@@ -49,7 +52,7 @@ public final class RandomRunsTest {
         return random.nextInt(40) == 0 ? odd(30) : random.nextInt(frames);
     }
 
-    private void call(String when) {
+    private void step(String when) {
         int kind = random.nextInt(100);
         if (kind < roundsInHundred) {
             same(when + "round", x.round(), model.round(true));
